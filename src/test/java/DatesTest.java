@@ -8,12 +8,16 @@ final class DatesTest {
 
     public static void main(String[] args) {
         shiftOfOneVoice();
+        eachShift();
+        shiftAtTheEndsOfTones();
+        shiftOfSixteenChords();
         shiftOfAllChords();
         shiftOfAllVoices();
         shiftWithoutSingers();
         shiftRefuses();
         dates();
         missed();
+        missedOfTwelve();
         missedRefuses();
         programmeIsAsLongAsPossible();
         programmeHasFewestPieces();
@@ -63,6 +67,49 @@ final class DatesTest {
             Check.stateRefused("shift of tone " + tone, () -> x.shift(0, 0));
             Check.equal("dates of tone " + tone, x.dates(0), 0);
         }
+    }
+
+    private static void eachShift() {
+        for (int shift = -12; shift <= 12; shift++) {
+            ChoirPlanner x = new ChoirPlanner();
+            for (int voice = 0; voice < 4; voice++) {
+                x.addSinger(voice, 40 - 5 * voice, 40 - 5 * voice);
+            }
+            x.chord(40 - shift, 35 - shift, 30 - shift, 25 - shift);
+            x.addPiece(10);
+            Check.equal("the only shift", x.shift(0, 0), shift);
+            Check.equal("dates with the only shift", x.dates(0), 31);
+            Check.equal("programme with the only shift", x.programme(0, 10), 1);
+        }
+    }
+
+    private static void shiftAtTheEndsOfTones() {
+        int[] ends = {0, 60};
+        for (int tone : ends) {
+            ChoirPlanner x = new ChoirPlanner();
+            for (int voice = 0; voice < 4; voice++) {
+                x.addSinger(voice, tone, tone);
+            }
+            x.chord(tone, tone, tone, tone);
+            x.addPiece(10);
+            Check.equal("all voices at " + tone, x.shift(0, 0), 0);
+            x.chord(30, 30, 30, 30);
+            x.addPiece(10);
+            Check.stateRefused("30 tones away", () -> x.shift(1, 0));
+        }
+    }
+
+    private static void shiftOfSixteenChords() {
+        ChoirPlanner x = choir();
+        for (int chord = 0; chord < 15; chord++) {
+            x.chord(47, 37, 27, 17);
+        }
+        x.chord(56, 37, 27, 17);
+        x.addPiece(10);
+        Check.equal("down by the last chord", x.shift(0, 0), -2);
+        x.setTone(0, 15, 0, 38);
+        Check.equal("up by the last chord", x.shift(0, 0), 2);
+        Check.equal("on all dates", x.dates(0), 31);
     }
 
     private static void shiftOfAllChords() {
@@ -174,6 +221,18 @@ final class DatesTest {
         Check.equal("but not in that voice", x.missed(8), 3);
         x.addSinger(0, 0, 0);
         Check.equal("a new one is there", x.missed(8), 0);
+    }
+
+    private static void missedOfTwelve() {
+        ChoirPlanner x = new ChoirPlanner();
+        for (int singer = 0; singer < 12; singer++) {
+            x.addSinger(singer / 6, 10, 20);
+        }
+        Check.equal("twelve there", x.missed(0), 0);
+        for (int singer = 0; singer < 12; singer++) {
+            x.tell(singer, 0, false);
+            Check.equal("missed after " + singer, x.missed(0), singer < 5 ? 0 : singer < 11 ? 6 : 12);
+        }
     }
 
     private static void missedRefuses() {

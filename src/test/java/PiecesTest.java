@@ -22,6 +22,8 @@ final class PiecesTest {
         faultsRefuse();
         leastFaults();
         leastFaultsStaysBetweenTheOtherVoices();
+        leastFaultsAtTheEndsOfTones();
+        sixteenChords();
         leastFaultsRefuses();
         Check.end("PiecesTest");
     }
@@ -286,6 +288,41 @@ final class PiecesTest {
         Check.equal("the lowest down to another leap", z.leastFaults(0, 1, 3), 26);
         ChoirPlanner bottom = withPiece(9, 9, 9, 0, 9, 9, 9, 9, 9, 9, 9, 0);
         Check.equal("the lowest down to 0", bottom.leastFaults(0, 1, 3), 0);
+    }
+
+    private static void leastFaultsAtTheEndsOfTones() {
+        ChoirPlanner up = withPiece(60, 47, 0, 0, 40, 30, 0, 0, 60, 47, 0, 0);
+        Check.equal("four leaps", up.faults(0), 4);
+        Check.equal("the tone of the next higher voice alone", up.leastFaults(0, 1, 1), 2);
+        ChoirPlanner down = withPiece(60, 13, 0, 0, 60, 40, 20, 0, 60, 13, 0, 0);
+        Check.equal("four other leaps", down.faults(0), 4);
+        Check.equal("the tone of the next lower voice alone", down.leastFaults(0, 1, 1), 2);
+        ChoirPlanner low = withPiece(1, 1, 1, 1, 0, 0, 0, 0, 1, 1, 1, 1);
+        Check.equal("no tone below 0", low.leastFaults(0, 1, 3), 36);
+        Check.equal("but above", low.leastFaults(0, 1, 0), 18);
+        ChoirPlanner high = withPiece(59, 59, 59, 59, 60, 60, 60, 60, 59, 59, 59, 59);
+        Check.equal("no tone above 60", high.leastFaults(0, 1, 0), 36);
+        Check.equal("but below", high.leastFaults(0, 1, 3), 18);
+        ChoirPlanner sixty = withPiece(60, 52, 0, 0, 60, 60, 0, 0, 60, 52, 0, 0);
+        Check.equal("the highest stays at 60", sixty.leastFaults(0, 1, 0), 2);
+        Check.equal("the second goes down", sixty.leastFaults(0, 1, 1), 0);
+    }
+
+    private static void sixteenChords() {
+        ChoirPlanner x = new ChoirPlanner();
+        for (int chord = 0; chord < 16; chord++) {
+            x.chord(40, 30, 20, 10 * (chord % 2));
+        }
+        x.addPiece(100);
+        Check.equal("the last move", x.faultsAt(0, 15), 1);
+        Check.equal("fifteen moves", x.faults(0), 15);
+        Check.equal("the last chord but one", x.leastFaults(0, 14, 3), 13);
+        x.setTone(0, 15, 3, 0);
+        Check.equal("without the last leap", x.faults(0), 14);
+        Check.equal("weakest of sixteen", x.weakest(0), 1);
+        Check.equal("rehearsed", x.rehearse(0, 30), 16 * 10 + 14 * 5 - 120);
+        Check.indexRefused("the last chord", () -> x.leastFaults(0, 15, 3));
+        Check.indexRefused("beyond the last chord", () -> x.leastFaults(0, 16, 3));
     }
 
     private static void leastFaultsRefuses() {

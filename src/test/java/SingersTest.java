@@ -155,6 +155,10 @@ final class SingersTest {
         Check.equal("the first alone", x.range(2, 7), 1240);
         x.addSinger(2, 40, 60);
         Check.equal("one tone", x.range(2, 7), 4040);
+        x.addSinger(3, 0, 0);
+        Check.equal("the lowest tone", x.range(3, 7), 0);
+        x.addSinger(3, 0, 5);
+        Check.equal("no more with another singer", x.range(3, 7), 0);
     }
 
     private static void rangeIsEmpty() {
