@@ -327,7 +327,7 @@ public final class ChoirPlanner {
         return (set & lowestDiffering) != 0;
     }
 
-    /** The singers by their numbers. Who calls it has looked whether the singer is there with has(). */
+    /** The singers by their numbers. Its callers ask has() before they name a singer, and isFull() before they add one. */
     private static final class Roster {
         private final int[] voices = new int[MOST_SINGERS];
         private final int[] lowest = new int[MOST_SINGERS];
@@ -407,7 +407,7 @@ public final class ChoirPlanner {
 
     /**
      * A row of chords with its length and the practice of each chord; the draft is one whose length is not told yet.
-     * Who calls it has looked whether the chord is there with has(), and that append() finds room with isFull().
+     * Its callers ask has() before they name a chord, and isFull() before they append one.
      */
     private static final class Piece {
         private static final int OCTAVE = 12;
